@@ -444,7 +444,7 @@ public final class TwinHart {
 
         private void writeMachine(int number, int v) {
             switch (number) {
-                case 0x300: mstatus = withLevelThatIs(v & MSTATUS_BITS); break;
+                case 0x300: mstatus = withoutLevelTwo(v & MSTATUS_BITS); break;
                 case 0x302: medeleg = v & MEDELEG_BITS; break;
                 case 0x303: mideleg = v & MIDELEG_BITS; break;
                 case 0x304: mie = v & MIE_BITS; break;
@@ -463,7 +463,7 @@ public final class TwinHart {
         }
 
         /** There is no level 2, so MPP cannot hold it. */
-        private static int withLevelThatIs(int status) {
+        private static int withoutLevelTwo(int status) {
             return (status & MPP) == 2 << MPP_SHIFT ? status & ~MPP : status;
         }
 

@@ -34,6 +34,8 @@ public final class ClaimTest {
         Rig rig = new Rig(CHECK, LR, SC, SC).with(2, DATA).with(3, 55);
         rig.steps("LR", 0).holds("LR", 1, 0).steps("SC", 0).holds("SC", 1, 0).keeps("SC", 32, 55);
         rig.with(3, 66).steps("SC again", 0).holds("SC again", 1, 1).keeps("SC again", 32, 55);
+        new Rig(CHECK, LR, SC).with(2, DATA).with(3, 0xFEDCBA98)
+            .steps("LR", 0).steps("SC of a whole word", 0).keeps("SC of a whole word", 32, 0xFEDCBA98);
         new Rig(CHECK, SC).with(2, DATA).with(3, 55).steps("SC alone", 0).holds("SC alone", 1, 1).keeps("SC alone", 32, 0);
     }
 

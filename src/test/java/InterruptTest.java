@@ -139,10 +139,20 @@ public final class InterruptTest {
     }
 
     private static void compare(int timeHigh, int timeLow, int cmpHigh, int cmpLow, int want) {
-        new Rig(CHECK, Asm.store(2, 1, 5, 0), Asm.store(2, 2, 5, 4), Asm.store(2, 3, 6, 0), Asm.store(2, 4, 6, 4))
-            .with(1, timeLow).with(2, timeHigh).with(3, cmpLow).with(4, cmpHigh).with(5, 0x0200BFF8).with(6, 0x02004000)
-            .steps("store", 0).steps("store", 0).steps("store", 0).steps("store", 0)
-            .reads("time " + timeHigh + " " + timeLow + ", cmp " + cmpHigh + " " + cmpLow, Rig.MIP, want);
+        for (int hart = 0; hart < 2; hart++) {
+            Rig rig = new Rig(CHECK, Asm.store(2, 1, 5, 0), Asm.store(2, 2, 5, 4), Asm.store(2, 3, 6, 0),
+                Asm.store(2, 4, 6, 4)).with(1, timeLow).with(2, timeHigh).with(3, cmpLow).with(4, cmpHigh)
+                .with(5, 0x0200BFF8).with(6, 0x02004000 + 8 * hart);
+            rig.steps("store", 0).steps("store", 0).steps("store", 0).steps("store", 0);
+            String what = "time " + timeHigh + " " + timeLow + ", cmp " + cmpHigh + " " + cmpLow;
+            CHECK.due(what + ": mip of hart " + hart, rig.machine.csr(hart, Rig.MIP), want);
+            CHECK.due(what + ": mip of the other", rig.machine.csr(1 - hart, Rig.MIP), otherMip(timeHigh, timeLow));
+        }
+    }
+
+    /** mtimecmp of the other hart is still all ones. */
+    private static int otherMip(int timeHigh, int timeLow) {
+        return timeHigh == -1 && timeLow == -1 ? 0x80 : 0;
     }
 
     private static void clockWithoutSigns() {

@@ -40,8 +40,10 @@ public final class JumpTest {
     private static void branches() {
         branch(0, 5, 5, true);
         branch(0, 5, 6, false);
+        branch(0, 6, 5, false);
         branch(1, 5, 5, false);
         branch(1, 5, 6, true);
+        branch(1, 6, 5, true);
         branch(4, -1, 1, true);
         branch(4, 1, -1, false);
         branch(4, 1, 1, false);
