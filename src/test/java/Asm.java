@@ -61,6 +61,18 @@ final class Asm {
         return r(0x2F, kind << 2, 2, rd, rs1, rs2);
     }
 
+    static int lr(int rd, int rs1) {
+        return atomic(2, rd, rs1, 0);
+    }
+
+    static int sc(int rd, int rs1, int rs2) {
+        return atomic(3, rd, rs1, rs2);
+    }
+
+    static int addi(int rd, int rs1, int immediate) {
+        return opImmediate(0, rd, rs1, immediate);
+    }
+
     static int csr(int f3, int rd, int source, int number) {
         return i(0x73, f3, rd, source, number);
     }

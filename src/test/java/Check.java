@@ -2,12 +2,24 @@
 final class Check {
     private int asked = 0;
     private int wrong = 0;
+    private int sentences = 0;
+    private int askedBefore = 0;
+    private String sentence = "";
+
+    /** From here on, what is asked is asked about these words of the document. */
+    void sentence(String words) {
+        endSentence();
+        sentence = words;
+        askedBefore = asked;
+        sentences++;
+    }
 
     void due(String what, long got, long want) {
         asked++;
         if (got != want) {
             wrong++;
-            System.out.println(what + " answered " + got + ", due is " + want);
+            String about = sentence.isEmpty() ? "" : "[" + sentence + "] ";
+            System.out.println(about + what + " answered " + got + ", due is " + want);
         }
     }
 
@@ -16,9 +28,19 @@ final class Check {
     }
 
     void end() {
-        System.out.println(wrong == 0 ? asked + " answers are as due" : wrong + " answers are not as due");
+        endSentence();
+        String about = sentences == 0 ? "" : sentences + " sentences, ";
+        System.out.println(about + (wrong == 0 ? asked + " answers are as due" : wrong + " answers are not as due"));
         if (wrong != 0) {
             System.exit(1);
+        }
+    }
+
+    /** A sentence about which nothing was asked would pass whatever the program does. */
+    private void endSentence() {
+        if (!sentence.isEmpty() && asked == askedBefore) {
+            wrong++;
+            System.out.println("[" + sentence + "] nothing was asked about it");
         }
     }
 }

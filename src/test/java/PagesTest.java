@@ -1,23 +1,5 @@
-/** Promise 5: pages. The first table stands at word 1024, the second at 2048, and the data at 3072. */
-public final class PagesTest {
-    private static final Check CHECK = new Check();
-    private static final int V = 1;
-    private static final int R = 2;
-    private static final int W = 4;
-    private static final int X = 8;
-    private static final int U = 16;
-    private static final int A = 64;
-    private static final int D = 128;
-    private static final int ALL = V | R | W | X | A | D;
-    private static final int SATP = 0x80080001;
-    private static final int SUM = 0x40000;
-    private static final int MXR = 0x80000;
-    private static final int MPRV = 0x20000;
-    private static final int DATA = 3072;
-    /** Reached through first entry 1, second entry 3: word 3072 + 2. */
-    private static final int ADDRESS = 1 << 22 | 3 << 12 | 8;
-    private static final int CODE = Rig.RAM;
-
+/** Promise 5: pages. */
+public final class PagesTest extends Paged {
     public static void main(String[] args) {
         walks();
         bigPages();
@@ -36,36 +18,18 @@ public final class PagesTest {
         CHECK.end();
     }
 
-    private static int entry(int page, int bits) {
-        return page << 10 | bits;
-    }
-
-    /** Hart 0 at a level, its code in a big page that maps RAM to itself, and one page of data behind ADDRESS. */
-    private static Rig paged(int level, int dataBits, int... program) {
-        Rig rig = new Rig(CHECK, program);
-        rig.machine.poke(1024 + 0x200, entry(0x80000, level == 0 ? ALL | U : ALL));
-        rig.machine.poke(1024 + 1, entry(0x80002, V));
-        rig.machine.poke(2048 + 3, entry(0x80003, dataBits));
-        rig.machine.poke(DATA + 2, 777);
-        rig.with(2, ADDRESS).with(3, 55);
-        return rig.at(level, CODE).put(Rig.SATP, SATP);
-    }
-
-    private static final int LOAD = Asm.load(2, 1, 2, 0);
-    private static final int STORE = Asm.store(2, 3, 2, 0);
-
     private static void walks() {
         paged(1, ALL, LOAD, STORE).steps("load", 0).holds("load", 1, 777).steps("store", 0).keeps("store", DATA + 2, 55)
             .stands("store", 1, CODE + 8);
         paged(0, ALL | U, LOAD, STORE).steps("load", 0).holds("load", 1, 777).steps("store", 0).keeps("store", DATA + 2, 55);
         Rig rig = paged(1, ALL, LOAD).with(2, -4);
-        rig.machine.poke(1024 + 1023, entry(0x80002, V));
-        rig.machine.poke(2048 + 1023, entry(0x80003, ALL));
+        rig.machine.poke(FIRST + 1023, entry(0x80002, V));
+        rig.machine.poke(SECOND + 1023, entry(0x80003, ALL));
         rig.machine.poke(4095, 888);
         rig.steps("last entries", 0).holds("last entries", 1, 888);
         paged(1, ALL, LOAD).put(Rig.SATP, SATP + 1).traps("another first table", 12, CODE);
         rig = paged(1, ALL, LOAD);
-        rig.machine.poke(1024 + 1, entry(0x80002, V | U | 32 | A | D | 0x300));
+        rig.machine.poke(FIRST + 1, entry(0x80002, V | U | 32 | A | D | 0x300));
         rig.steps("bits that do not matter", 0).holds("bits that do not matter", 1, 777);
         rig = paged(1, ALL | 32 | 0x300, LOAD);
         rig.steps("bits that do not matter", 0).holds("bits that do not matter", 1, 777);
@@ -73,15 +37,15 @@ public final class PagesTest {
 
     private static void bigPages() {
         Rig rig = paged(1, ALL, LOAD).with(2, 1 << 22 | 3 << 12 | 8);
-        rig.machine.poke(1024 + 1, entry(0x80000, ALL));
+        rig.machine.poke(FIRST + 1, entry(0x80000, ALL));
         rig.steps("big page", 0).holds("big page", 1, 777);
         for (int bit = 0; bit < 10; bit++) {
             rig = paged(1, ALL, LOAD);
-            rig.machine.poke(1024 + 1, entry(0x80000 | 1 << bit, ALL));
+            rig.machine.poke(FIRST + 1, entry(0x80000 | 1 << bit, ALL));
             rig.traps("big page, bit " + bit, 13, ADDRESS);
         }
         rig = paged(1, ALL, LOAD);
-        rig.machine.poke(1024 + 1, entry(0x80400, ALL));
+        rig.machine.poke(FIRST + 1, entry(0x80400, ALL));
         rig.traps("big page beyond RAM", 5, ADDRESS);
     }
 
@@ -112,7 +76,7 @@ public final class PagesTest {
             entry(0x80000, ALL & ~V)};
         for (int first : firsts) {
             Rig rig = paged(1, ALL, LOAD);
-            rig.machine.poke(1024 + 1, first);
+            rig.machine.poke(FIRST + 1, first);
             rig.traps("first entry", 13, ADDRESS);
         }
     }
@@ -124,10 +88,10 @@ public final class PagesTest {
         }
         for (int root : roots) {
             Rig load = paged(1, ALL, LOAD);
-            load.machine.poke(1024 + 1, entry(root & 0x3FFFFF, V));
+            load.machine.poke(FIRST + 1, entry(root & 0x3FFFFF, V));
             load.traps("no second entry", 5, ADDRESS);
             Rig store = paged(1, ALL, STORE);
-            store.machine.poke(1024 + 1, entry(root & 0x3FFFFF, V));
+            store.machine.poke(FIRST + 1, entry(root & 0x3FFFFF, V));
             store.traps("no second entry", 7, ADDRESS);
         }
         Rig rig = Rig.ofWords(CHECK, 64, LOAD).with(2, ADDRESS).at(1, CODE).put(Rig.SATP, 0x80080000);
@@ -142,10 +106,10 @@ public final class PagesTest {
         paged(1, ALL, LOAD).put(Rig.MSTATUS, SUM).steps("S without U, SUM", 0).holds("S without U, SUM", 1, 777);
         paged(0, ALL, LOAD).put(Rig.MSTATUS, SUM).traps("U without U, SUM", 13, ADDRESS);
         Rig rig = paged(1, ALL, LOAD).put(Rig.MSTATUS, SUM);
-        rig.machine.poke(1024 + 0x200, entry(0x80000, ALL | U));
+        rig.machine.poke(CODE_ENTRY, entry(0x80000, ALL | U));
         rig.traps("instruction at S with U, SUM", 12, CODE);
         rig = paged(0, ALL | U, LOAD);
-        rig.machine.poke(1024 + 0x200, entry(0x80000, ALL));
+        rig.machine.poke(CODE_ENTRY, entry(0x80000, ALL));
         rig.traps("instruction at U without U", 12, CODE);
     }
 
@@ -166,13 +130,13 @@ public final class PagesTest {
         int[] code = {V | X | A, V | R | X | A, ALL};
         for (int bits : code) {
             Rig rig = paged(1, ALL, LOAD);
-            rig.machine.poke(1024 + 0x200, entry(0x80000, bits));
+            rig.machine.poke(CODE_ENTRY, entry(0x80000, bits));
             rig.steps("instruction", 0).holds("instruction", 1, 777);
         }
         int[] noCode = {V | R | A, V | R | W | A | D, V | X, V | R | W | X | D, X | A, V | W | X | A};
         for (int bits : noCode) {
             Rig rig = paged(1, ALL, LOAD).put(Rig.MSTATUS, MXR);
-            rig.machine.poke(1024 + 0x200, entry(0x80000, bits));
+            rig.machine.poke(CODE_ENTRY, entry(0x80000, bits));
             rig.traps("no instruction", 12, CODE);
         }
     }
@@ -181,40 +145,40 @@ public final class PagesTest {
         int[] pages = {0x180003, 0x100000, 0x280003, 0x3FFFFF, 0x100000 | 0x02000, 0x100000 | 0x10000};
         for (int page : pages) {
             Rig load = paged(1, ALL, LOAD);
-            load.machine.poke(2048 + 3, entry(page, ALL));
+            load.machine.poke(SECOND + 3, entry(page, ALL));
             load.traps("above 32 bits", 5, ADDRESS);
             Rig store = paged(1, ALL, STORE);
-            store.machine.poke(2048 + 3, entry(page, ALL));
+            store.machine.poke(SECOND + 3, entry(page, ALL));
             store.traps("above 32 bits", 7, ADDRESS);
         }
         Rig rig = paged(1, ALL, LOAD);
-        rig.machine.poke(1024 + 0x200, entry(0x180000, ALL));
+        rig.machine.poke(CODE_ENTRY, entry(0x180000, ALL));
         rig.traps("instruction above 32 bits", 1, CODE);
         rig = paged(1, ALL, LOAD);
-        rig.machine.poke(2048 + 3, entry(0x180003, ALL & ~A));
+        rig.machine.poke(SECOND + 3, entry(0x180003, ALL & ~A));
         rig.traps("above 32 bits and without A", 13, ADDRESS);
         rig = paged(1, ALL, STORE).with(2, (1 << 22 | 3 << 12));
-        rig.machine.poke(2048 + 3, entry(0x102000, ALL));
+        rig.machine.poke(SECOND + 3, entry(0x102000, ALL));
         rig.traps("above 32 bits, over msip", 7, 1 << 22 | 3 << 12);
     }
 
     private static void deviceBehindPages() {
         Rig rig = paged(1, ALL, Asm.store(2, 3, 2, 0), Asm.load(2, 1, 2, 0)).with(2, 1 << 22 | 3 << 12);
-        rig.machine.poke(2048 + 3, entry(0x02000, ALL));
+        rig.machine.poke(SECOND + 3, entry(0x02000, ALL));
         rig.steps("msip", 0).steps("msip", 0).holds("msip", 1, 1).reads("msip", Rig.MIP, 8);
         rig = paged(1, ALL, Asm.store(0, 3, 2, 0)).with(2, 1 << 22 | 3 << 12);
-        rig.machine.poke(2048 + 3, entry(0x10000, ALL));
+        rig.machine.poke(SECOND + 3, entry(0x10000, ALL));
         rig.steps("console", 0);
         CHECK.due("console behind pages", rig.machine.out(0), 55);
         rig = paged(1, ALL, LOAD);
-        rig.machine.poke(2048 + 3, entry(0x10000, ALL));
+        rig.machine.poke(SECOND + 3, entry(0x10000, ALL));
         rig.traps("nothing there", 5, ADDRESS);
         rig = paged(1, ALL, Asm.NOP);
-        rig.machine.poke(1024 + 0x200, entry(0x02000, ALL));
+        rig.machine.poke(CODE_ENTRY, entry(0x02000, ALL));
         rig.traps("no instruction there", 1, CODE);
         rig = paged(1, ALL, Asm.NOP);
-        rig.machine.poke(1024 + 0x200, entry(0x80002, V));
-        rig.machine.poke(2048, entry(0x02000, ALL));
+        rig.machine.poke(CODE_ENTRY, entry(0x80002, V));
+        rig.machine.poke(SECOND, entry(0x02000, ALL));
         rig.traps("no instruction there", 1, CODE);
     }
 
@@ -237,7 +201,7 @@ public final class PagesTest {
         paged(1, ALL, LOAD).put(Rig.MSTATUS, MPRV).steps("MPRV at S, MPP U", 0).holds("MPRV at S", 1, 777);
         paged(0, ALL | U, LOAD).put(Rig.MSTATUS, MPRV | 0x1800).steps("MPRV at U", 0).holds("MPRV at U", 1, 777);
         Rig rig = paged(3, ALL, Asm.NOP).put(Rig.MSTATUS, MPRV | 0x800);
-        rig.machine.poke(1024 + 0x200, 0);
+        rig.machine.poke(CODE_ENTRY, 0);
         rig.steps("MPRV is not of instructions", 0);
         paged(3, 0, Asm.atomic(0, 1, 2, 3)).put(Rig.MSTATUS, MPRV | 0x800).traps("MPRV, sum", 15, ADDRESS);
     }
@@ -264,13 +228,13 @@ public final class PagesTest {
         Rig rig = paged(1, ALL, lr, sc).steps("LR", 0).with(2, Rig.RAM + 4 * DATA + 8);
         rig.steps("the same word", 0).holds("the same word by another address", 1, 0);
         rig = paged(1, ALL, lr, sc).steps("LR", 0);
-        rig.machine.poke(2048 + 3, entry(0x80000, ALL));
+        rig.machine.poke(SECOND + 3, entry(0x80000, ALL));
         rig.steps("another word", 0).holds("another word by the same address", 1, 1);
         rig = paged(1, ALL, lr);
-        rig.machine.poke(2048 + 3, entry(0x180003, ALL));
+        rig.machine.poke(SECOND + 3, entry(0x180003, ALL));
         rig.traps("LR above 32 bits", 5, ADDRESS);
         rig = paged(1, ALL, sc).with(2, 1 << 22 | 3 << 12);
-        rig.machine.poke(2048 + 3, entry(0x02000, ALL));
+        rig.machine.poke(SECOND + 3, entry(0x02000, ALL));
         rig.traps("SC to msip", 7, 1 << 22 | 3 << 12);
     }
 
@@ -278,7 +242,7 @@ public final class PagesTest {
         paged(1, 0, LOAD).put(Rig.MEDELEG, 1 << 13).trapsLower("load", 13, ADDRESS);
         paged(0, ALL, STORE).put(Rig.MEDELEG, 1 << 15).trapsLower("store", 15, ADDRESS);
         Rig rig = paged(1, 0, LOAD).put(Rig.MEDELEG, 1 << 12);
-        rig.machine.poke(1024 + 0x200, 0);
+        rig.machine.poke(CODE_ENTRY, 0);
         rig.trapsLower("instruction", 12, CODE);
         paged(1, 0, LOAD).put(Rig.MEDELEG, ~(1 << 13)).traps("load", 13, ADDRESS);
         paged(3, 0, LOAD).put(Rig.MEDELEG, -1).put(Rig.MSTATUS, MPRV | 0x800).traps("load at M", 13, ADDRESS);

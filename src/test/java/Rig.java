@@ -1,4 +1,4 @@
-/** A machine with a program in it, and the checks that many tests share. */
+/** A machine with a program in it, one of its harts to look at, and the checks that many tests share. */
 final class Rig {
     static final int RAM = 0x80000000;
     static final int MSTATUS = 0x300;
@@ -25,6 +25,7 @@ final class Rig {
 
     final TwinHart machine;
     private final Check check;
+    private int hart = 0;
 
     Rig(Check check, int... program) {
         this(check, 4096, program);
@@ -36,9 +37,9 @@ final class Rig {
         for (int k = 0; k < program.length; k++) {
             machine.poke(k, program[k]);
         }
-        for (int hart = 0; hart < 2; hart++) {
-            machine.put(hart, MTVEC, HANDLER);
-            machine.put(hart, STVEC, LOWER_HANDLER);
+        for (int each = 0; each < 2; each++) {
+            machine.put(each, MTVEC, HANDLER);
+            machine.put(each, STVEC, LOWER_HANDLER);
         }
     }
 
@@ -46,54 +47,66 @@ final class Rig {
         return new Rig(check, words, program);
     }
 
+    /** From here on, all that is done and asked is of this hart. */
+    Rig onHart(int which) {
+        hart = which;
+        return this;
+    }
+
     Rig with(int i, int v) {
-        machine.set(0, i, v);
+        machine.set(hart, i, v);
         return this;
     }
 
     Rig put(int number, int v) {
-        machine.put(0, number, v);
+        machine.put(hart, number, v);
         return this;
     }
 
-    /** Hart 0, still at its beginning, goes to a level and on at an address; its CSR stay. */
+    Rig poke(int k, int word) {
+        machine.poke(k, word);
+        return this;
+    }
+
+    /** The hart, still at its beginning, goes to a level and on at an address; its CSR stay. */
     Rig at(int level, int pc) {
         int first = machine.peek(0);
-        int status = machine.csr(0, MSTATUS);
-        int mepc = machine.csr(0, MEPC);
+        int status = machine.csr(hart, MSTATUS);
+        int mepc = machine.csr(hart, MEPC);
         machine.poke(0, Asm.MRET);
-        machine.put(0, MSTATUS, level << 11);
-        machine.put(0, MEPC, pc);
-        machine.step(0);
+        machine.put(hart, MSTATUS, level << 11);
+        machine.put(hart, MEPC, pc);
+        machine.step(hart);
         machine.poke(0, first);
-        machine.put(0, MSTATUS, status);
-        machine.put(0, MEPC, mepc);
+        machine.put(hart, MSTATUS, status);
+        machine.put(hart, MEPC, mepc);
         return this;
     }
 
     Rig steps(String what, int want) {
-        check.due(what + ": step(0)", machine.step(0), want);
+        check.due(what + ": step(" + hart + ")", machine.step(hart), want);
         return this;
     }
 
     Rig stepsOther(String what, int want) {
-        check.due(what + ": step(1)", machine.step(1), want);
+        check.due(what + ": step(" + (1 - hart) + ")", machine.step(1 - hart), want);
         return this;
     }
 
     Rig holds(String what, int i, int want) {
-        check.due(what + ": register(0, " + i + ")", machine.register(0, i), want);
+        check.due(what + ": register(" + hart + ", " + i + ")", machine.register(hart, i), want);
         return this;
     }
 
     Rig reads(String what, int number, int want) {
-        check.due(what + ": csr(0, 0x" + Integer.toHexString(number) + ")", machine.csr(0, number), want);
+        String call = ": csr(" + hart + ", 0x" + Integer.toHexString(number) + ")";
+        check.due(what + call, machine.csr(hart, number), want);
         return this;
     }
 
     Rig stands(String what, int level, int pc) {
-        check.due(what + ": level(0)", machine.level(0), level);
-        check.due(what + ": pc(0)", machine.pc(0), pc);
+        check.due(what + ": level(" + hart + ")", machine.level(hart), level);
+        check.due(what + ": pc(" + hart + ")", machine.pc(hart), pc);
         return this;
     }
 
@@ -102,29 +115,34 @@ final class Rig {
         return this;
     }
 
+    Rig printed(String what, int want) {
+        check.due(what + ": size()", machine.size(), want);
+        return this;
+    }
+
     /** A step that traps to M: the answer, and all that the trap leaves behind. */
     Rig traps(String what, int cause, int tval) {
-        int pc = machine.pc(0);
-        int level = machine.level(0);
+        int pc = machine.pc(hart);
+        int level = machine.level(hart);
         steps(what, 1 + cause);
         stands(what, 3, HANDLER);
         reads(what, MEPC, pc);
         reads(what, MCAUSE, cause);
         reads(what, MTVAL, tval);
-        check.due(what + ": MPP", machine.csr(0, MSTATUS) >> 11 & 3, level);
+        check.due(what + ": MPP", machine.csr(hart, MSTATUS) >> 11 & 3, level);
         return this;
     }
 
     /** A step that traps to S. */
     Rig trapsLower(String what, int cause, int tval) {
-        int pc = machine.pc(0);
-        int level = machine.level(0);
+        int pc = machine.pc(hart);
+        int level = machine.level(hart);
         steps(what, 1 + cause);
         stands(what, 1, LOWER_HANDLER);
         reads(what, SEPC, pc);
         reads(what, SCAUSE, cause);
         reads(what, STVAL, tval);
-        check.due(what + ": SPP", machine.csr(0, MSTATUS) >> 8 & 1, level == 1 ? 1 : 0);
+        check.due(what + ": SPP", machine.csr(hart, MSTATUS) >> 8 & 1, level == 1 ? 1 : 0);
         return this;
     }
 }
