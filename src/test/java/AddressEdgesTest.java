@@ -14,6 +14,7 @@ public final class AddressEdgesTest extends Paged {
         registers();
         pcIsAMultiple();
         levels();
+        withoutSigns();
         asManyWords();
         lowestByteFirst();
         msip();
@@ -114,6 +115,20 @@ public final class AddressEdgesTest extends Paged {
         }
     }
 
+    private static void withoutSigns() {
+        CHECK.sentence("ADDRESSES (unsigned)");
+        int[] places = {-4, END, 0x7FFFFFFC, 0, 4, 0xC0000000};
+        for (int place : places) {
+            String what = "0x" + Integer.toHexString(place);
+            new Rig(CHECK, Asm.load(2, 1, 2, 0)).with(2, place).traps(what, 5, place);
+            new Rig(CHECK, Asm.store(2, 1, 2, 0)).with(2, place).traps(what, 7, place);
+            new Rig(CHECK, Asm.jalr(0, 2, 0)).with(2, place).steps(what, 0).traps(what, 1, place);
+        }
+        new Rig(CHECK, Asm.load(2, 1, 2, 0)).with(2, Rig.RAM).steps("RAM", 0).holds("RAM", 1, Asm.load(2, 1, 2, 0));
+        paged(1, ALL, LOAD).with(2, -4).poke(FIRST + 1023, entry(0x80002, V)).poke(SECOND + 1023, entry(0x80003, ALL))
+            .poke(4095, 888).steps("the last address has a page", 0).holds("the last address has a page", 1, 888);
+    }
+
     private static void asManyWords() {
         CHECK.sentence("RAM are as many words as were asked for, from 0x80000000 on");
         int[] sizes = {16, 17, 64, 4095, 4096};
@@ -158,7 +173,8 @@ public final class AddressEdgesTest extends Paged {
         }
         one(64, Asm.load(5, 1, 2, 0), Rig.RAM + 0x80).poke(32, 0x44332211).steps("half", 0).holds("half", 1, 0x2211);
         one(64, Asm.load(5, 1, 2, 2), Rig.RAM + 0x80).poke(32, 0x44332211).steps("half", 0).holds("half", 1, 0x4433);
-        one(64, Asm.load(2, 1, 2, 0), Rig.RAM + 0x80).poke(32, 0x44332211).steps("word", 0).holds("word", 1, 0x44332211);
+        one(64, Asm.load(2, 1, 2, 0), Rig.RAM + 0x80).poke(32, 0x44332211).steps("word", 0)
+            .holds("word", 1, 0x44332211);
     }
 
     private static void msip() {
@@ -174,7 +190,8 @@ public final class AddressEdgesTest extends Paged {
             }
         }
         new Rig(CHECK, Asm.store(2, 3, 2, 0), Asm.store(2, 4, 2, 0)).with(2, MSIP).with(3, 1).with(4, 2)
-            .steps("msip", 0).reads("msip", Rig.MIP, 8).steps("msip", 0).reads("an even number takes it away", Rig.MIP, 0);
+            .steps("msip", 0).reads("msip", Rig.MIP, 8).steps("msip", 0)
+            .reads("an even number takes it away", Rig.MIP, 0);
     }
 
     private static void sixtyFourBits() {
@@ -196,7 +213,19 @@ public final class AddressEdgesTest extends Paged {
             rig.steps("upper word alone", 0).onHart(hart).reads("0 is below the lower word", Rig.MIP, 0);
             rig.onHart(0).steps("lower word", 0).onHart(hart).reads("both are 0", Rig.MIP, 0x80);
             rig.onHart(1 - hart).reads("of the other", Rig.MIP, 0);
+            dueOf(hart, "lower words are compared", 5, 0, 5, 0, 0x80);
+            dueOf(hart, "the lower word is not the upper one", 5, 0, 0, 5, 0);
+            dueOf(hart, "the upper word counts more", 9, 0, 0, 1, 0);
+            dueOf(hart, "the upper word counts more", 0, 1, 9, 0, 0x80);
         }
+    }
+
+    /** Hart 0 stores mtime and a hart's mtimecmp, each by its lower word and then its upper word. */
+    private static void dueOf(int hart, String what, int low, int high, int cmpLow, int cmpHigh, int mip) {
+        Rig rig = new Rig(CHECK, Asm.store(2, 3, 2, 0), Asm.store(2, 4, 2, 4), Asm.store(2, 5, 7, 0),
+            Asm.store(2, 6, 7, 4)).with(2, MTIME).with(3, low).with(4, high).with(5, cmpLow).with(6, cmpHigh)
+            .with(7, MTIMECMP + 8 * hart);
+        rig.steps(what, 0).steps(what, 0).steps(what, 0).steps(what, 0).onHart(hart).reads(what, Rig.MIP, mip);
     }
 
     private static void wholeWords() {
@@ -217,7 +246,8 @@ public final class AddressEdgesTest extends Paged {
     private static void partOfClock(String what, int f3, int at) {
         new Rig(CHECK, Asm.load(f3, 1, 2, 0)).with(1, 9).with(2, at).traps(what, 5, at).holds(what, 1, 9);
         new Rig(CHECK, Asm.load(f3 | 4, 1, 2, 0)).with(1, 9).with(2, at).traps(what, 5, at).holds(what, 1, 9);
-        Rig rig = new Rig(CHECK, Asm.store(f3, 1, 2, 0), 0, Asm.load(2, 3, 4, 0)).with(1, 5).with(2, at).with(4, at & -4);
+        Rig rig = new Rig(CHECK, Asm.store(f3, 1, 2, 0), 0, Asm.load(2, 3, 4, 0)).with(1, 5).with(2, at)
+            .with(4, at & -4);
         rig.put(Rig.MTVEC, Rig.RAM + 8).steps(what, 8).reads(what, Rig.MTVAL, at).steps(what, 0);
         rig.holds(what + " is as it was", 3, (at & 0xFFF0) == 0x4000 ? -1 : 0);
     }
@@ -278,7 +308,8 @@ public final class AddressEdgesTest extends Paged {
         for (int offset = -1; offset < 4; offset++) {
             int at = Console.PLACE + offset;
             if (offset != 0) {
-                new Rig(CHECK, Asm.store(0, 3, 2, 0)).with(2, at).traps("beside the console", 7, at).printed("beside", 0);
+                new Rig(CHECK, Asm.store(0, 3, 2, 0)).with(2, at).traps("beside the console", 7, at)
+                    .printed("beside", 0);
                 new Rig(CHECK, Asm.load(0, 3, 2, 0)).with(2, at).traps("beside the console", 5, at);
             }
         }
@@ -303,7 +334,8 @@ public final class AddressEdgesTest extends Paged {
 
     private static void claimsBeyondRam() {
         CHECK.sentence("and what is told of words that are claimed");
-        int[] places = {0, MSIP, MSIP + 4, MTIMECMP, MTIMECMP + 12, MTIME, MTIME + 4, Console.PLACE, Rig.RAM - 4, END, -4};
+        int[] places = {0, MSIP, MSIP + 4, MTIMECMP, MTIMECMP + 12, MTIME, MTIME + 4, Console.PLACE, Rig.RAM - 4, END,
+            -4};
         for (int place : places) {
             String what = "0x" + Integer.toHexString(place);
             new Rig(CHECK, Asm.lr(1, 2)).with(1, 9).with(2, place).traps("LR at " + what, 5, place).holds(what, 1, 9);

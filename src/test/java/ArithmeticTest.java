@@ -61,7 +61,8 @@ public final class ArithmeticTest {
         immediate(5, LEAST, 0x400 | 4, 0xF8000000);
         immediate(5, 0x40000000, 0x400 | 30, 1);
         immediate(5, -8, 0x400, -8);
-        int[] wrong = {Asm.opImmediate(1, 3, 4, 0x400 | 4), Asm.opImmediate(1, 3, 4, 0x20), Asm.opImmediate(5, 3, 4, 0x20),
+        int[] wrong = {Asm.opImmediate(1, 3, 4, 0x400 | 4), Asm.opImmediate(1, 3, 4, 0x20),
+            Asm.opImmediate(5, 3, 4, 0x20),
             Asm.opImmediate(5, 3, 4, 0x420), Asm.opImmediate(5, 3, 4, 0x800)};
         for (int word : wrong) {
             new Rig(CHECK, word).with(3, 9).traps("shift", 2, word).holds("shift", 3, 9);

@@ -60,10 +60,12 @@ public final class ClaimEdgesTest extends Paged {
                 .holds("LR to x0", 0, 0).steps("SC", 0).holds("SC", 1, 0);
             for (int rs2 = 1; rs2 < 32; rs2++) {
                 int word = Asm.atomic(2, 1, 2, rs2);
-                new Rig(CHECK, word).onHart(hart).with(1, 9).with(2, WORD).traps("rs2 " + rs2, 2, word).holds("LR", 1, 9);
+                new Rig(CHECK, word).onHart(hart).with(1, 9).with(2, WORD).traps("rs2 " + rs2, 2, word)
+                    .holds("LR", 1, 9);
             }
         }
-        Rig rig = new Rig(CHECK, LR, SC).with(2, WORD).with(3, 5).steps("LR of 0", 0).onHart(1).with(2, WORD).with(3, 6);
+        Rig rig = new Rig(CHECK, LR, SC).with(2, WORD).with(3, 5).steps("LR of 0", 0).onHart(1).with(2, WORD)
+            .with(3, 6);
         rig.steps("LR of 1", 0).onHart(0).steps("both may claim one word", 0).holds("both", 1, 0).keeps("both", 32, 5);
         new Rig(CHECK, LR, Asm.lr(4, 5), SC).with(2, WORD).with(3, 6).with(5, WORD + 4).steps("LR", 0).steps("LR", 0)
             .steps("the first word is not claimed any more", 0).holds("first word", 1, 1).keeps("first word", 32, 0);
@@ -170,10 +172,12 @@ public final class ClaimEdgesTest extends Paged {
         for (int kind : CHANGES) {
             storesTrap(Asm.atomic(kind, 1, 2, 3));
         }
-        new Rig(CHECK, LR, SC).with(2, WORD).steps("LR", 0).with(1, 9).with(2, WORD + 1).traps("SC, claimed", 6, WORD + 1);
+        new Rig(CHECK, LR, SC).with(2, WORD).steps("LR", 0).with(1, 9).with(2, WORD + 1)
+            .traps("SC, claimed", 6, WORD + 1);
         new Rig(CHECK, LR, SC).with(2, WORD).steps("LR", 0).with(1, 9).with(2, nowhere).traps("SC, claimed", 7, nowhere)
             .holds("SC, claimed", 1, 9);
-        paged(1, V | R | A, LR, SC).steps("LR", 0).traps("SC to the claimed word", 15, ADDRESS).keeps("SC", DATA + 2, 777);
+        paged(1, V | R | A, LR, SC).steps("LR", 0).traps("SC to the claimed word", 15, ADDRESS)
+            .keeps("SC", DATA + 2, 777);
     }
 
     private static void storesTrap(int word) {
@@ -212,7 +216,8 @@ public final class ClaimEdgesTest extends Paged {
         Rig.ofWords(CHECK, words, SC).with(1, 9).with(2, place).traps("SC at " + what, 7, place).holds(what, 1, 9);
         for (int kind : CHANGES) {
             Rig rig = Rig.ofWords(CHECK, words, Asm.atomic(kind, 1, 2, 3)).with(1, 9).with(2, place).with(3, 1);
-            rig.traps("bits " + kind + " at " + what, 7, place).holds(what, 1, 9).printed(what, 0).reads(what, Rig.MIP, 0);
+            rig.traps("bits " + kind + " at " + what, 7, place).holds(what, 1, 9).printed(what, 0)
+                .reads(what, Rig.MIP, 0);
         }
     }
 
@@ -244,7 +249,8 @@ public final class ClaimEdgesTest extends Paged {
     }
 
     private static void storesTakeClaims() {
-        CHECK.sentence("A store to RAM, of any hart, takes all claims away; also an SC that stores and the others here.");
+        CHECK.sentence("A store to RAM, of any hart, takes all claims away; "
+            + "also an SC that stores and the others here.");
         both("word", Asm.store(2, 4, 5, 0), false);
         both("half", Asm.store(1, 4, 5, 0), false);
         both("byte", Asm.store(0, 4, 5, 3), false);

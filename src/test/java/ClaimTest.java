@@ -36,7 +36,8 @@ public final class ClaimTest {
         rig.with(3, 66).steps("SC again", 0).holds("SC again", 1, 1).keeps("SC again", 32, 55);
         new Rig(CHECK, LR, SC).with(2, DATA).with(3, 0xFEDCBA98)
             .steps("LR", 0).steps("SC of a whole word", 0).keeps("SC of a whole word", 32, 0xFEDCBA98);
-        new Rig(CHECK, SC).with(2, DATA).with(3, 55).steps("SC alone", 0).holds("SC alone", 1, 1).keeps("SC alone", 32, 0);
+        new Rig(CHECK, SC).with(2, DATA).with(3, 55).steps("SC alone", 0).holds("SC alone", 1, 1)
+            .keeps("SC alone", 32, 0);
     }
 
     private static void claimsThatAreNotJustIt() {
@@ -178,7 +179,8 @@ public final class ClaimTest {
             new Rig(CHECK, LR).with(2, DATA + offset).traps("LR", 4, DATA + offset);
             new Rig(CHECK, LR).with(2, offset).traps("LR", 4, offset);
             for (int kind : changes) {
-                new Rig(CHECK, Asm.atomic(kind, 1, 2, 3)).with(2, DATA + offset).traps("kind " + kind, 6, DATA + offset);
+                new Rig(CHECK, Asm.atomic(kind, 1, 2, 3)).with(2, DATA + offset)
+                    .traps("kind " + kind, 6, DATA + offset);
             }
         }
     }

@@ -86,7 +86,8 @@ public final class ComputeEdgesTest {
             new Rig(CHECK, Asm.jalr(2, 2, low)).with(2, MIDDLE).steps("rd is rs1", 0).stands("rd is rs1", 3, MIDDLE)
                 .holds("rd is rs1", 2, Rig.RAM + 4);
         }
-        new Rig(CHECK, Asm.jalr(1, 2, 3)).with(2, MIDDLE + 1).steps("odd and odd", 0).stands("odd and odd", 3, MIDDLE + 4);
+        new Rig(CHECK, Asm.jalr(1, 2, 3)).with(2, MIDDLE + 1).steps("odd and odd", 0)
+            .stands("odd and odd", 3, MIDDLE + 4);
         for (int f3 = 1; f3 < 8; f3++) {
             int word = Asm.i(0x67, f3, 1, 2, 0);
             new Rig(CHECK, word).with(1, 9).with(2, MIDDLE).traps("f3 " + f3, 2, word).holds("f3 " + f3, 1, 9);
@@ -186,7 +187,8 @@ public final class ComputeEdgesTest {
             for (int at = 0; at < 4; at += 1 << f3) {
                 String what = "f3 " + f3 + " at " + at;
                 int mask = masks[f3] << 8 * at;
-                new Rig(CHECK, Asm.store(f3, 1, 2, at)).with(1, -1).with(2, MIDDLE).steps(what, 0).keeps(what, 1024, mask)
+                new Rig(CHECK, Asm.store(f3, 1, 2, at)).with(1, -1).with(2, MIDDLE).steps(what, 0)
+                    .keeps(what, 1024, mask)
                     .keeps(what, 1023, 0).keeps(what, 1025, 0).holds(what, 1, -1);
                 new Rig(CHECK, Asm.store(f3, 1, 2, at)).with(1, 0).with(2, MIDDLE).poke(1024, -1).steps(what, 0)
                     .keeps(what, 1024, ~mask);

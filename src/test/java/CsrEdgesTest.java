@@ -66,7 +66,8 @@ public final class CsrEdgesTest {
             new Rig(CHECK, Asm.csr(1, 0, 1, Rig.MSTATUS)).with(1, row[0]).put(Rig.MSTATUS, MPP)
                 .steps(what, 0).reads(what, Rig.MSTATUS, row[1]);
         }
-        new Rig(CHECK, Asm.csr(2, 0, 1, Rig.MSTATUS)).with(1, 0x1000).steps("0 or 2", 0).reads("0 or 2", Rig.MSTATUS, 0);
+        new Rig(CHECK, Asm.csr(2, 0, 1, Rig.MSTATUS)).with(1, 0x1000).steps("0 or 2", 0)
+            .reads("0 or 2", Rig.MSTATUS, 0);
         new Rig(CHECK, Asm.csr(2, 0, 1, Rig.MSTATUS)).with(1, 0x1000).put(Rig.MSTATUS, 0x800)
             .steps("1 or 2", 0).reads("1 or 2", Rig.MSTATUS, 0x1800);
         new Rig(CHECK, Asm.csr(3, 0, 1, Rig.MSTATUS)).with(1, 0x800).put(Rig.MSTATUS, 0x1800)
@@ -238,7 +239,8 @@ public final class CsrEdgesTest {
         CHECK.sentence("(misa is written without effect.)");
         int[] written = {0, -1, 5};
         for (int v : written) {
-            Rig rig = new Rig(CHECK, Asm.csr(1, 1, 2, 0x301), Asm.csr(2, 3, 2, 0x301), Asm.csr(3, 4, 2, 0x301)).with(2, v);
+            Rig rig = new Rig(CHECK, Asm.csr(1, 1, 2, 0x301), Asm.csr(2, 3, 2, 0x301), Asm.csr(3, 4, 2, 0x301))
+                .with(2, v);
             CHECK.due("put(misa)", rig.machine.put(0, 0x301, v), true);
             rig.reads("put", 0x301, 0x40141101).steps("written", 0).holds("written", 1, 0x40141101);
             rig.steps("written", 0).holds("written", 3, 0x40141101).steps("written", 0).holds("written", 4, 0x40141101);

@@ -119,7 +119,8 @@ public final class CsrTest {
                 }
             }
         }
-        int[] far = {-1, 4096 + 0x340, Integer.MIN_VALUE, Integer.MIN_VALUE + 0x301, Integer.MAX_VALUE, 0x10301, -0x301};
+        int[] far = {-1, 4096 + 0x340, Integer.MIN_VALUE, Integer.MIN_VALUE + 0x301, Integer.MAX_VALUE, 0x10301,
+            -0x301};
         for (int number : far) {
             TwinHart machine = new TwinHart(64);
             CHECK.due("put(0, " + number + ", 5)", machine.put(0, number, 5), false);
@@ -208,7 +209,8 @@ public final class CsrTest {
     }
 
     private static void notAllowed() {
-        int[] numbers = {0, 1, 0x101, 0x106, 0x181, 0x306, 0x320, 0x345, 0x200, 0xB00, 0xC00, 0xC01, 0xF10, 0xF15, 0xFFF, 0x744};
+        int[] numbers = {0, 1, 0x101, 0x106, 0x181, 0x306, 0x320, 0x345, 0x200, 0xB00, 0xC00, 0xC01, 0xF10, 0xF15,
+            0xFFF, 0x744};
         for (int number : numbers) {
             for (int f3 = 1; f3 < 8; f3++) {
                 int word = Asm.csr(f3, 1, 0, number);

@@ -161,7 +161,8 @@ public final class InterruptEdgesTest {
     private static void whereInterruptsAreTaken() {
         CHECK.sentence("an interrupt of the second group: at S");
         for (int cause : WRITTEN) {
-            waiting(0, 0, 1 << cause, 1 << cause).steps("second group", 64 + cause).stands("second", 1, Rig.LOWER_HANDLER);
+            waiting(0, 0, 1 << cause, 1 << cause).steps("second group", 64 + cause)
+                .stands("second", 1, Rig.LOWER_HANDLER);
             waiting(0, 0, ~(1 << cause), 1 << cause).put(Rig.MEDELEG, -1).steps("first group", 64 + cause)
                 .stands("first group", 3, Rig.HANDLER);
         }
@@ -177,12 +178,15 @@ public final class InterruptEdgesTest {
         int word = Asm.op(2, 0, 1, 2, 3);
         for (int level = 0; level < 2; level++) {
             new Rig(CHECK, Asm.NOP, word).put(Rig.MEDELEG, -1).put(Rig.MEPC, 8).put(Rig.MCAUSE, 9).put(Rig.MTVAL, 10)
-                .at(level, Rig.RAM + 4).steps("trap", 3).reads("trap", Rig.SEPC, Rig.RAM + 4).reads("trap", Rig.SCAUSE, 2)
+                .at(level, Rig.RAM + 4).steps("trap", 3).reads("trap", Rig.SEPC, Rig.RAM + 4)
+                .reads("trap", Rig.SCAUSE, 2)
                 .reads("trap", Rig.STVAL, word).reads("trap", Rig.MEPC, 8).reads("trap", Rig.MCAUSE, 9)
                 .reads("trap", Rig.MTVAL, 10);
         }
-        waiting(0, 0, 2, 2).put(Rig.STVAL, 5).put(Rig.MEPC, 8).steps("interrupt", 65).reads("interrupt", Rig.SEPC, Rig.RAM)
-            .reads("interrupt", Rig.SCAUSE, 0x80000001).reads("interrupt", Rig.STVAL, 0).reads("interrupt", Rig.MEPC, 8);
+        waiting(0, 0, 2, 2).put(Rig.STVAL, 5).put(Rig.MEPC, 8).steps("interrupt", 65)
+            .reads("interrupt", Rig.SEPC, Rig.RAM)
+            .reads("interrupt", Rig.SCAUSE, 0x80000001).reads("interrupt", Rig.STVAL, 0)
+            .reads("interrupt", Rig.MEPC, 8);
     }
 
     private static void statusOfSupervisor() {

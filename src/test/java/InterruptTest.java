@@ -102,7 +102,8 @@ public final class InterruptTest {
         rig.reads("at S", Rig.MSTATUS, 0x19A8).reads("at S", Rig.MCAUSE, 0);
         rig = new Rig(CHECK, Asm.opImmediate(0, 1, 0, 5)).put(Rig.MIP, 2).put(Rig.MIE, 2).put(Rig.MSTATUS, MIE_BIT);
         rig.steps("instead of an instruction", 65).holds("instead of an instruction", 1, 0);
-        waiting(0, 0, 0, 2).put(Rig.MEDELEG, -1).steps("medeleg is of traps alone", 65).stands("medeleg", 3, Rig.HANDLER);
+        waiting(0, 0, 0, 2).put(Rig.MEDELEG, -1).steps("medeleg is of traps alone", 65)
+            .stands("medeleg", 3, Rig.HANDLER);
     }
 
     private static void softwareInterrupts() {

@@ -28,16 +28,18 @@ public final class PageEdgesTest extends Paged {
     }
 
     private static void whenThereArePages() {
-        CHECK.sentence("for instructions at a level below M, for loads and stores at a level (with MPRV, at M: MPP instead) "
-            + "below M, if bit 31 of satp is 1");
+        CHECK.sentence("for instructions at a level below M, for loads and stores at a level "
+            + "(with MPRV, at M: MPP instead) below M, if bit 31 of satp is 1");
         for (int level = 0; level < 2; level++) {
             int bits = level == 0 ? ALL | U : ALL;
             paged(level, bits, LOAD, STORE).steps("pages", 0).holds("pages", 1, 777).steps("pages", 0)
                 .keeps("pages", DATA + 2, 55);
             paged(level, bits, LOAD).poke(CODE_ENTRY, 0).traps("instruction", 12, CODE);
             paged(level, bits, LOAD, STORE).put(Rig.SATP, SATP & 0x7FFFFFFF).traps("bit 31 is 0", 5, ADDRESS);
-            paged(level, bits, LOAD).put(Rig.SATP, 0x3FFFFF).with(2, CODE).steps("bit 31 is 0", 0).holds("bit 31", 1, LOAD);
-            paged(level, bits, LOAD).put(Rig.MSTATUS, MPRV | 0x1800).steps("MPRV counts at M alone", 0).holds("MPRV", 1, 777);
+            paged(level, bits, LOAD).put(Rig.SATP, 0x3FFFFF).with(2, CODE).steps("bit 31 is 0", 0)
+                .holds("bit 31", 1, LOAD);
+            paged(level, bits, LOAD).put(Rig.MSTATUS, MPRV | 0x1800).steps("MPRV counts at M alone", 0)
+                .holds("MPRV", 1, 777);
         }
         paged(3, ALL, LOAD).traps("M", 5, ADDRESS);
         paged(3, ALL, STORE).traps("M", 7, ADDRESS);
@@ -73,8 +75,8 @@ public final class PageEdgesTest extends Paged {
     }
 
     private static void entries() {
-        CHECK.sentence("An ENTRY is the word at 4096 * p + 4 * number, p being the lower 22 bits of satp and the first number, "
-            + "then bits 10 .. 31 of the entry before and the second");
+        CHECK.sentence("An ENTRY is the word at 4096 * p + 4 * number, "
+            + "p being the lower 22 bits of satp and the first number, then bits 10 .. 31 of the entry before and the second");
         for (int table = 1; table < 4; table++) {
             for (int next = 1; next < 4; next++) {
                 if (next != table) {
@@ -101,7 +103,8 @@ public final class PageEdgesTest extends Paged {
 
     private static void entriesBeyondRam() {
         CHECK.sentence("no RAM there: access fault");
-        int[] roots = {0, 0x7FFFF, 0x80004, 0x2000, 0x2004, 0x200B, 0x10000, 0x100000, 0x180001, 0x280001, 0x380001, 0x3FFFFF};
+        int[] roots = {0, 0x7FFFF, 0x80004, 0x2000, 0x2004, 0x200B, 0x10000, 0x100000, 0x180001, 0x280001, 0x380001,
+            0x3FFFFF};
         for (int root : roots) {
             String what = "page " + Integer.toHexString(root);
             paged(1, ALL, LOAD).put(Rig.SATP, 0x80000000 | root).traps("instruction, first, " + what, 1, CODE);
@@ -150,8 +153,10 @@ public final class PageEdgesTest extends Paged {
             allFault("second " + Integer.toHexString(b), 1, SUM | MXR, b);
             allFaultInFirst("first " + Integer.toHexString(b), b);
         }
-        paged(1, ALL, LOAD).poke(FIRST + 1, entry(0x80002, 0)).traps("a first one without V leads nowhere", 13, ADDRESS);
-        paged(1, ALL, LOAD).poke(FIRST + 1, entry(0x80002, V | W)).traps("a first one with W leads nowhere", 13, ADDRESS);
+        paged(1, ALL, LOAD).poke(FIRST + 1, entry(0x80002, 0))
+            .traps("a first one without V leads nowhere", 13, ADDRESS);
+        paged(1, ALL, LOAD).poke(FIRST + 1, entry(0x80002, V | W))
+            .traps("a first one with W leads nowhere", 13, ADDRESS);
     }
 
     private static void leadsToTheSecond() {
@@ -161,7 +166,8 @@ public final class PageEdgesTest extends Paged {
             paged(1, ALL, LOAD).poke(FIRST + 1, entry(0x80002, b)).steps("leads on", 0).holds("leads on", 1, 777);
             allFault("second " + Integer.toHexString(b), 1, SUM | MXR, b);
         }
-        paged(1, ALL, LOAD).poke(FIRST + 1, entry(0x80002, V | R | A)).traps("with R it is the page itself", 13, ADDRESS);
+        paged(1, ALL, LOAD).poke(FIRST + 1, entry(0x80002, V | R | A))
+            .traps("with R it is the page itself", 13, ADDRESS);
         paged(1, ALL, LOAD).poke(FIRST + 1, entry(0x80000, V | R | A)).poke(SECOND + 3, 0)
             .steps("with R it is the page itself", 0).holds("with R it is the page itself", 1, 777);
         paged(1, ALL, Asm.jalr(0, 2, 0)).poke(FIRST + 1, entry(0x80000, V | X | A)).poke(SECOND + 3, 0)
@@ -188,7 +194,8 @@ public final class PageEdgesTest extends Paged {
             .keeps("SUM", DATA + 2, 55);
         paged(1, ALL | U, LR, SC).put(Rig.MSTATUS, SUM).steps("LR, SUM", 0).holds("LR, SUM", 1, 777).steps("SC, SUM", 0)
             .holds("SC, SUM", 1, 0);
-        paged(1, ALL | U, Asm.jalr(0, 2, 0)).put(Rig.MSTATUS, SUM).steps("JALR", 0).traps("instruction, SUM", 12, ADDRESS);
+        paged(1, ALL | U, Asm.jalr(0, 2, 0)).put(Rig.MSTATUS, SUM).steps("JALR", 0)
+            .traps("instruction, SUM", 12, ADDRESS);
         paged(1, ALL, LOAD, STORE).put(Rig.MSTATUS, SUM).steps("without U, SUM", 0).holds("without U", 1, 777)
             .steps("without U, SUM", 0);
         paged(1, ALL, LOAD, STORE).steps("without U", 0).holds("without U", 1, 777).steps("without U", 0);
@@ -228,7 +235,8 @@ public final class PageEdgesTest extends Paged {
             paged(1, V | R | W | A | D, word).steps("W", 0);
             int[] without = {V | R | A | D, V | R | X | A | D, V | X | A | D};
             for (int bits : without) {
-                paged(1, bits, word).put(Rig.MSTATUS, SUM | MXR).traps("without W", 15, ADDRESS).keeps("W", DATA + 2, 777);
+                paged(1, bits, word).put(Rig.MSTATUS, SUM | MXR).traps("without W", 15, ADDRESS)
+                    .keeps("W", DATA + 2, 777);
             }
         }
         paged(1, V | R | W | A | D, STORE).steps("W", 0).keeps("W", DATA + 2, 55);
@@ -245,9 +253,11 @@ public final class PageEdgesTest extends Paged {
         paged(1, ALL & ~D, SC).traps("SC without D", 15, ADDRESS);
         paged(1, ALL & ~D, SUM_OF_WORD).traps("sum without D", 15, ADDRESS);
         paged(1, ALL, STORE).poke(FIRST + 1, entry(0x80000, ALL & ~D)).traps("first without D", 15, ADDRESS);
-        paged(1, ALL & ~D, Asm.jalr(0, 2, 0)).poke(DATA + 2, Asm.NOP).steps("JALR", 0).steps("instruction without D", 0);
+        paged(1, ALL & ~D, Asm.jalr(0, 2, 0)).poke(DATA + 2, Asm.NOP).steps("JALR", 0)
+            .steps("instruction without D", 0);
         Rig rig = paged(1, ALL, LOAD, STORE).steps("load", 0).steps("store", 0);
-        rig.keeps("the entry stays as it is", SECOND + 3, entry(0x80003, ALL)).keeps("first", FIRST + 1, entry(0x80002, V));
+        rig.keeps("the entry stays as it is", SECOND + 3, entry(0x80003, ALL))
+            .keeps("first", FIRST + 1, entry(0x80002, V));
     }
 
     private static void firstEntriesAreStraight() {
@@ -281,7 +291,8 @@ public final class PageEdgesTest extends Paged {
         paged(1, ALL, STORE).poke(SECOND + 3, entry(0x02004, ALL)).with(2, page).steps("mtimecmp", 0);
         paged(1, ALL, Asm.store(0, 3, 2, 0)).poke(SECOND + 3, entry(0x10000, ALL)).with(2, page).steps("console", 0)
             .printed("console", 1);
-        paged(1, ALL, LOAD).poke(SECOND + 3, entry(0xFFFFF, ALL)).with(2, page | 0xFFC).traps("the last", 5, page | 0xFFC);
+        paged(1, ALL, LOAD).poke(SECOND + 3, entry(0xFFFFF, ALL)).with(2, page | 0xFFC)
+            .traps("the last", 5, page | 0xFFC);
     }
 
     private static void placesOfFirstEntries() {
@@ -299,7 +310,8 @@ public final class PageEdgesTest extends Paged {
         paged(1, ALL, STORE, LOAD).poke(FIRST + 1, entry(0x02000, ALL)).with(2, msip).steps("msip", 0).steps("msip", 0)
             .holds("msip", 1, 1);
         int mtime = 1 << 22 | 0xB << 12 | 0xFF8;
-        paged(1, ALL, STORE, LOAD).poke(FIRST + 1, entry(0x02000, ALL)).with(2, mtime).steps("mtime", 0).steps("mtime", 0)
+        paged(1, ALL, STORE, LOAD).poke(FIRST + 1, entry(0x02000, ALL)).with(2, mtime).steps("mtime", 0)
+            .steps("mtime", 0)
             .holds("mtime", 1, 55);
         int ram = 1 << 22 | 3 << 12 | 8;
         paged(1, ALL, LOAD).poke(FIRST + 1, entry(0xFFC00, ALL)).with(2, ram).traps("the last first entry", 5, ram);
@@ -323,7 +335,8 @@ public final class PageEdgesTest extends Paged {
         int[] firsts = {0x100000, 0x180000, 0x280000, 0x380000, 0x3FFC00};
         for (int page : firsts) {
             paged(1, ALL, LOAD).poke(FIRST + 1, entry(page, ALL)).traps("first entry", 5, ADDRESS);
-            paged(1, ALL, STORE).poke(FIRST + 1, entry(page, ALL)).traps("first entry", 7, ADDRESS).keeps("first", 3074, 777);
+            paged(1, ALL, STORE).poke(FIRST + 1, entry(page, ALL)).traps("first entry", 7, ADDRESS)
+                .keeps("first", 3074, 777);
             paged(1, ALL, Asm.NOP).poke(CODE_ENTRY, entry(page, ALL)).traps("first entry", 1, CODE);
         }
         paged(1, ALL, LOAD).poke(SECOND + 3, entry(0x180003, ALL & ~A)).traps("rights come before", 13, ADDRESS);

@@ -21,7 +21,8 @@ public final class PagesTest extends Paged {
     private static void walks() {
         paged(1, ALL, LOAD, STORE).steps("load", 0).holds("load", 1, 777).steps("store", 0).keeps("store", DATA + 2, 55)
             .stands("store", 1, CODE + 8);
-        paged(0, ALL | U, LOAD, STORE).steps("load", 0).holds("load", 1, 777).steps("store", 0).keeps("store", DATA + 2, 55);
+        paged(0, ALL | U, LOAD, STORE).steps("load", 0).holds("load", 1, 777).steps("store", 0)
+            .keeps("store", DATA + 2, 55);
         Rig rig = paged(1, ALL, LOAD).with(2, -4);
         rig.machine.poke(FIRST + 1023, entry(0x80002, V));
         rig.machine.poke(SECOND + 1023, entry(0x80003, ALL));
@@ -218,7 +219,8 @@ public final class PagesTest extends Paged {
     private static void claims() {
         int lr = Asm.atomic(2, 1, 2, 0);
         int sc = Asm.atomic(3, 1, 2, 3);
-        paged(1, ALL, lr, sc).steps("LR", 0).holds("LR", 1, 777).steps("SC", 0).holds("SC", 1, 0).keeps("SC", DATA + 2, 55);
+        paged(1, ALL, lr, sc).steps("LR", 0).holds("LR", 1, 777).steps("SC", 0).holds("SC", 1, 0)
+            .keeps("SC", DATA + 2, 55);
         paged(1, V | R | A, lr).steps("LR is a load", 0).holds("LR is a load", 1, 777);
         paged(1, V | X | A, lr).traps("LR is a load", 13, ADDRESS);
         paged(1, V | R | A, sc).traps("SC is a store, whatever is claimed", 15, ADDRESS);

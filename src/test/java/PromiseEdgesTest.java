@@ -10,6 +10,7 @@ public final class PromiseEdgesTest {
 
     public static void main(String[] args) {
         callsOfAnObject();
+        constants();
         newObject();
         reset();
         poke();
@@ -37,6 +38,15 @@ public final class PromiseEdgesTest {
         }
         CHECK.due("call 511", machine.register(0, 1), 254);
         CHECK.due("call 512", machine.pc(0), 0x80000000);
+    }
+
+    private static void constants() {
+        CHECK.sentence("`NONE = -1`: Nothing there.");
+        CHECK.due("NONE", TwinHart.NONE, -1);
+        TwinHart machine = new TwinHart(16);
+        CHECK.due("step(2)", machine.step(2), -1);
+        CHECK.due("level(2)", machine.level(2), -1);
+        CHECK.due("out(0)", machine.out(0), -1);
     }
 
     private static void newObject() {
@@ -411,7 +421,8 @@ public final class PromiseEdgesTest {
         CHECK.sentence("Byte i of these, 0 .. 255");
         int[] bytes = {0, 1, 127, 128, 254, 255};
         for (int b : bytes) {
-            Rig rig = new Rig(CHECK, Asm.store(0, 1, 2, 0)).with(1, 0xABCDEF00 | b).with(2, Console.PLACE).steps("sb", 0);
+            Rig rig = new Rig(CHECK, Asm.store(0, 1, 2, 0)).with(1, 0xABCDEF00 | b).with(2, Console.PLACE)
+                .steps("sb", 0);
             CHECK.due("out(0)", rig.machine.out(0), b);
         }
         TwinHart full = new TwinHart(64);

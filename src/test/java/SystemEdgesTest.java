@@ -41,7 +41,8 @@ public final class SystemEdgesTest {
 
     private static boolean isThere(int word) {
         boolean isFence = word >>> 25 == 9 && (word >> 7 & 31) == 0;
-        return word == Asm.ECALL || word == Asm.EBREAK || word == Asm.WFI || word == Asm.MRET || word == Asm.SRET || isFence;
+        return word == Asm.ECALL || word == Asm.EBREAK || word == Asm.WFI || word == Asm.MRET || word == Asm.SRET
+            || isFence;
     }
 
     private static void waits() {
@@ -78,7 +79,8 @@ public final class SystemEdgesTest {
     }
 
     private static void supervisorReturns() {
-        CHECK.sentence("0x10200073 SRET (at S and M): pc = sepc, the level = SPP, SIE = SPIE, SPIE = 1, SPP = 0, MPRV = 0");
+        CHECK.sentence("0x10200073 SRET (at S and M): pc = sepc, the level = SPP, SIE = SPIE, SPIE = 1, SPP = 0, "
+            + "MPRV = 0");
         int[][] moves = {
             {0, 0x20, 0}, {0x100, 0x20, 1}, {0x20, 0x22, 0}, {0x2, 0x20, 0}, {0x22, 0x22, 0}, {0x120, 0x22, 1},
             {0x20000, 0x20, 0}, {0x20100, 0x20, 1}, {0x1888, 0x18A8, 0},
@@ -88,7 +90,8 @@ public final class SystemEdgesTest {
             for (int[] move : moves) {
                 String what = "mstatus " + Integer.toHexString(move[0]) + " at level " + level;
                 new Rig(CHECK, Asm.SRET).at(level, Rig.RAM).put(Rig.MSTATUS, move[0]).put(Rig.SEPC, -4).put(Rig.MEPC, 4)
-                    .steps(what, 0).stands(what, move[2], -4).reads(what, Rig.MSTATUS, move[1]).reads(what, Rig.SEPC, -4);
+                    .steps(what, 0).stands(what, move[2], -4).reads(what, Rig.MSTATUS, move[1])
+                    .reads(what, Rig.SEPC, -4);
             }
         }
         new Rig(CHECK, Asm.SRET).put(Rig.SEPC, 64).at(0, Rig.RAM).put(Rig.MSTATUS, 0x120)
@@ -120,7 +123,8 @@ public final class SystemEdgesTest {
     private static void numbers() {
         CHECK.sentence("CSR of number I (12 bits without sign): rd is it");
         for (int number : TOLD) {
-            Rig rig = new Rig(CHECK, Asm.csr(2, 1, 0, number)).put(Rig.MEPC, 0x44).put(Rig.SATP, 0x123).put(number, 0x220);
+            Rig rig = new Rig(CHECK, Asm.csr(2, 1, 0, number)).put(Rig.MEPC, 0x44).put(Rig.SATP, 0x123)
+                .put(number, 0x220);
             int want = rig.machine.csr(0, number);
             rig.with(1, 9).steps("number " + Integer.toHexString(number), 0).holds("number", 1, want);
         }
@@ -131,7 +135,8 @@ public final class SystemEdgesTest {
 
     private static void exchange(int f3, int old, int a, int want) {
         String what = "f3 " + f3 + ", " + old + ", " + a;
-        new Rig(CHECK, Asm.csr(f3, 1, 2, 0x340)).with(1, 99).with(2, a).put(0x340, old).steps(what, 0).holds(what, 1, old)
+        new Rig(CHECK, Asm.csr(f3, 1, 2, 0x340)).with(1, 99).with(2, a).put(0x340, old).steps(what, 0)
+            .holds(what, 1, old)
             .reads(what, 0x340, want).holds(what, 2, a).stands(what, 3, Rig.RAM + 4);
     }
 
@@ -147,7 +152,8 @@ public final class SystemEdgesTest {
         }
         new Rig(CHECK, Asm.csr(1, 1, 1, 0x340)).with(1, 5).put(0x340, 8).steps("rd is rs1", 0).holds("rd is rs1", 1, 8)
             .reads("rd is rs1", 0x340, 5);
-        new Rig(CHECK, Asm.csr(3, 1, 1, 0x340)).with(1, 8).put(0x340, 12).steps("rd is rs1", 0).holds("rd is rs1", 1, 12)
+        new Rig(CHECK, Asm.csr(3, 1, 1, 0x340)).with(1, 8).put(0x340, 12).steps("rd is rs1", 0)
+            .holds("rd is rs1", 1, 12)
             .reads("rd is rs1", 0x340, 4);
         new Rig(CHECK, Asm.csr(1, 0, 2, 0x340)).with(2, 5).put(0x340, 8).steps("rd is x0", 0).holds("rd is x0", 0, 0)
             .reads("rd is x0", 0x340, 5);
@@ -179,7 +185,8 @@ public final class SystemEdgesTest {
                 new Rig(CHECK, Asm.csr(f3, 1, 0, number)).onHart(1).with(1, 9).steps("read alone", 0)
                     .holds("read alone", 1, number == 0xF14 ? 1 : 0);
                 int word = Asm.csr(f3, 1, 2, number);
-                new Rig(CHECK, word).with(1, 9).traps("a register that is 0 is written", 2, word).holds("written", 1, 9);
+                new Rig(CHECK, word).with(1, 9).traps("a register that is 0 is written", 2, word)
+                    .holds("written", 1, 9);
             }
             new Rig(CHECK, Asm.csr(f3, 1, 0, 0x340)).put(0x340, -5).steps("read alone", 0).holds("read alone", 1, -5)
                 .reads("read alone", 0x340, -5);

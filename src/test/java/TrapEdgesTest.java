@@ -27,7 +27,8 @@ public final class TrapEdgesTest extends Paged {
         CHECK.sentence("if an INTERRUPT is due it is taken; else one instruction is done, or traps");
         interrupted(new Rig(CHECK, Asm.addi(1, 0, 5))).steps("interrupt", 65).holds("interrupt", 1, 0)
             .reads("interrupt", Rig.MEPC, Rig.RAM).stands("interrupt", 3, Rig.HANDLER);
-        interrupted(new Rig(CHECK, Asm.store(2, 3, 2, 0)).with(2, WORD).with(3, 5)).steps("store", 65).keeps("store", 32, 0);
+        interrupted(new Rig(CHECK, Asm.store(2, 3, 2, 0)).with(2, WORD).with(3, 5)).steps("store", 65)
+            .keeps("store", 32, 0);
         interrupted(new Rig(CHECK, 0)).steps("what is not there", 65).reads("what is not there", Rig.MTVAL, 0);
         interrupted(new Rig(CHECK, Asm.jalr(0, 1, 0)).with(1, NOWHERE).steps("JALR", 0)).steps("pc beyond RAM", 65)
             .reads("pc beyond RAM", Rig.MEPC, NOWHERE);
@@ -209,7 +210,8 @@ public final class TrapEdgesTest extends Paged {
 
     private static void nothingElse() {
         CHECK.sentence("What traps changes nothing else.");
-        int[] words = {Asm.jal(1, 2), Asm.jalr(1, 2, 2), Asm.load(2, 1, 2, 1), Asm.load(2, 1, 4, 0), Asm.load(0, 1, 5, 0),
+        int[] words = {Asm.jal(1, 2), Asm.jalr(1, 2, 2), Asm.load(2, 1, 2, 1), Asm.load(2, 1, 4, 0),
+            Asm.load(0, 1, 5, 0),
             Asm.store(2, 3, 2, 1), Asm.store(2, 3, 4, 0), Asm.store(2, 3, 5, 0), Asm.store(0, 3, 6, 0), Asm.lr(1, 4),
             Asm.sc(1, 4, 3), Asm.atomic(0, 1, 5, 3), Asm.atomic(1, 1, 6, 3), Asm.csr(1, 1, 3, 0xF14),
             Asm.csr(2, 1, 3, 0x345), Asm.csr(4, 1, 3, 0x340), Asm.ECALL, Asm.EBREAK, 0, -1, Asm.op(2, 0, 1, 2, 3)};

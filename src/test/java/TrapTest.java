@@ -152,7 +152,8 @@ public final class TrapTest {
     }
 
     private static void notThere() {
-        int[] words = {0x00200073, 0x000000F3, 0x00008073, 0x00100073 | 1 << 7, 0x10500073 | 1 << 15, 0x30200073 | 1 << 7,
+        int[] words = {0x00200073, 0x000000F3, 0x00008073, 0x00100073 | 1 << 7, 0x10500073 | 1 << 15,
+            0x30200073 | 1 << 7,
             0x10200073 | 1 << 15, 0x00300073, 0x7B200073, 0x14000073, 0x10000073, 0x30000073, 0x10400073};
         for (int word : words) {
             new Rig(CHECK, word).traps("0x73, f3 0", 2, word);
@@ -162,7 +163,8 @@ public final class TrapTest {
     }
 
     private static void trapsChangeNothingElse() {
-        Rig rig = new Rig(CHECK, Asm.load(2, 1, 2, 0)).with(1, 5).with(2, 0x40000000).put(Rig.SCAUSE, 7).put(Rig.SEPC, 8)
+        Rig rig = new Rig(CHECK, Asm.load(2, 1, 2, 0)).with(1, 5).with(2, 0x40000000).put(Rig.SCAUSE, 7)
+            .put(Rig.SEPC, 8)
             .put(Rig.STVAL, 9);
         rig.traps("load", 5, 0x40000000).holds("load", 1, 5).holds("load", 2, 0x40000000);
         rig.reads("load", Rig.SCAUSE, 7).reads("load", Rig.SEPC, 8).reads("load", Rig.STVAL, 9);
