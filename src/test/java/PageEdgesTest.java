@@ -76,7 +76,8 @@ public final class PageEdgesTest extends Paged {
 
     private static void entries() {
         CHECK.sentence("An ENTRY is the word at 4096 * p + 4 * number, "
-            + "p being the lower 22 bits of satp and the first number, then bits 10 .. 31 of the entry before and the second");
+            + "p being the lower 22 bits of satp and the first number, "
+            + "then bits 10 .. 31 of the entry before and the second");
         for (int table = 1; table < 4; table++) {
             for (int next = 1; next < 4; next++) {
                 if (next != table) {
